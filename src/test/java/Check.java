@@ -4,17 +4,38 @@ import java.util.function.LongSupplier;
 final class Check {
     static final long ARGUMENT = Long.MIN_VALUE + 1;
     static final long STATE = Long.MIN_VALUE + 2;
+    static final long OTHER = Long.MIN_VALUE + 3;
 
     private static int wrong = 0;
     private static int looked = 0;
+    private static int sentences = 0;
+    private static String sentence = "";
 
     private Check() {}
+
+    /**
+     * The test of its own that one sentence of the document has. What is not as due is told with
+     * the sentence, and a test that looks at no answer at all is wrong too.
+     */
+    static void sentence(String section, String words, Runnable test) {
+        sentence = section + ", \"" + words + "\": ";
+        sentences++;
+        int before = looked;
+        try {
+            test.run();
+        } catch (RuntimeException e) {
+            fault("threw " + e);
+        }
+        if (looked == before) {
+            fault("no answer was looked at");
+        }
+        sentence = "";
+    }
 
     static void due(String call, long got, long want) {
         looked++;
         if (got != want) {
-            wrong++;
-            System.out.println(call + " answered " + told(got) + ", due is " + told(want));
+            fault(call + " answered " + told(got) + ", due is " + told(want));
         }
     }
 
@@ -25,8 +46,7 @@ final class Check {
     static void due(String call, String got, String want) {
         looked++;
         if (!got.equals(want)) {
-            wrong++;
-            System.out.println(call + ":\n  got " + got + "\n  due " + want);
+            fault(call + ":\n  got " + got + "\n  due " + want);
         }
     }
 
@@ -38,24 +58,30 @@ final class Check {
             if (e.getClass() == IllegalArgumentException.class) {
                 return ARGUMENT;
             }
-            if (e.getClass() == IllegalStateException.class) {
-                return STATE;
-            }
-            throw e;
+            return e.getClass() == IllegalStateException.class ? STATE : OTHER;
         }
     }
 
     static void end() {
-        System.out.println(looked + " answers looked at, " + wrong + " not as due");
+        String tested = sentences == 0 ? "" : sentences + " sentences, ";
+        System.out.println(tested + looked + " answers looked at, " + wrong + " not as due");
         if (wrong != 0) {
             System.exit(1);
         }
+    }
+
+    private static void fault(String text) {
+        wrong++;
+        System.out.println(sentence + text);
     }
 
     private static String told(long answer) {
         if (answer == ARGUMENT) {
             return "throws.IllegalArgumentException";
         }
-        return answer == STATE ? "throws.IllegalStateException" : Long.toString(answer);
+        if (answer == STATE) {
+            return "throws.IllegalStateException";
+        }
+        return answer == OTHER ? "throws another exception" : Long.toString(answer);
     }
 }
